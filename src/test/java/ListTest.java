@@ -1,3 +1,5 @@
+import java.util.Arrays;
+
 /** Promises 6 to 9: enter, isVoid, holder, rank. */
 public final class ListTest {
     private static final Check CHECK = new Check();
@@ -39,11 +41,13 @@ public final class ListTest {
         int[][] wrong = {
             {-1, 0, 0, 0, 0}, {4, 0, 0, 0, 0}, {0, -1, 0, 0, 0}, {0, 3, 0, 0, 0}, {0, 120, 0, 0, 0},
             {0, 0, -1, 0, 0}, {0, 0, 30, 0, 0}, {0, 0, 0, -1, 0}, {0, 0, 0, 100, 0}, {0, 0, 0, 0, -1}, {0, 0, 0, 0, 4},
-            {1, 0, -1, 0, 0}, {1, 0, 100, 0, 0}, {2, 0, -1, 0, 0}, {2, 0, 30, 0, 0}, {2, 0, 0, -1, 0}, {2, 0, 0, 100, 0},
+            {1, 0, -1, 0, 0}, {1, 0, 100, 0, 0}, {2, 0, -1, 0, 0}, {2, 0, 30, 0, 0}, {2, 0, 0, -1, 0},
+            {2, 0, 0, 100, 0},
             {3, 0, -1, 0, 0}, {3, 0, 30, 0, 0}, {Integer.MAX_VALUE, 0, 0, 0, 0}, {0, Integer.MIN_VALUE, 0, 0, 0},
         };
         for (int[] row : wrong) {
-            CHECK.due("enter " + java.util.Arrays.toString(row), -1, dole.enter(row[0], row[1], row[2], row[3], row[4]));
+            CHECK.due("enter " + Arrays.toString(row), -1,
+                    dole.enter(row[0], row[1], row[2], row[3], row[4]));
         }
         CHECK.due("entries", 0, dole.count(2));
         CHECK.due("edges", 0, dole.enter(ENROLLED, 2, 29, 99, 3));

@@ -147,6 +147,12 @@ public final class PartingTest {
         CHECK.due("part", 3, dole.part());
         givenIs("left over", dole, 0, 1, 1, 1, 0);
         monthIs("left over", dole, 0, 3, 3, 1, 0, 0, 20);
+        corn(dole, 6);
+        showAll(dole, 4);
+        CHECK.due("part", 6, dole.part());
+        givenIs("one each", dole, 1, 2, 2, 1, 1);
+        givenIs("of the month ahead of it still", dole, 0, 1, 1, 1, 0);
+        CHECK.due("from, behind the month's last", -1, dole.from(0, 0, 1));
     }
 
     private static void ranksWithoutADueGetNothing() {
@@ -370,7 +376,9 @@ public final class PartingTest {
         CHECK.due("month 61", 695, dole.month(61, 3));
         CHECK.due("month 119", 1, dole.month(119, 2));
         CHECK.due("month 120", -1, dole.month(120, 0));
+        CHECK.due("given", 5, dole.given(0, 59));
         CHECK.due("given", 5, dole.given(0, 60));
+        CHECK.due("from", -1, dole.from(0, 59, 5));
         CHECK.due("from", 0, dole.from(0, 60, 4));
         CHECK.due("room", 1000, dole.room(0, 50));
         CHECK.due("room was set", 50, dole.room(0, 60));
