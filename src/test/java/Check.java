@@ -44,7 +44,7 @@ final class Check {
     }
 
     static void partTo(GrainDole dole, int month) {
-        while (dole.count(0) < month) {
+        for (int now = dole.count(0); now < month; now++) {
             dole.part();
         }
     }
